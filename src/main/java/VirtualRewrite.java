@@ -670,12 +670,13 @@ public final class VirtualRewrite {
         final Rewriting rewriting;
         final Slots slots;
         final Answers answers;
-        /** By slot: the table, the variables, each variable's column, the rows worth a try. */
+        /** By slot: one of its atoms, its variables, each variable's column, the rows worth a try. */
         final int[] atomOf = new int[ATOMS];
         final int[] variables = new int[ATOMS];
         final int[] columns = new int[ATOMS * VARIABLES];
         final int[] rows = new int[ATOMS * ROWS];
         final int[] rowCounts = new int[ATOMS];
+        final int[] order = new int[ATOMS];
         /** By variable: what the union settles, and what the rows given so far settle. */
         final int[] templates = new int[VARIABLES];
         final int[] codes = new int[VARIABLES];
@@ -698,6 +699,7 @@ public final class VirtualRewrite {
                 allHaveRows = rowCounts[slot] > 0;
             }
             if (allHaveRows) {
+                orderSlots();
                 search(0, 0);
             }
         }
@@ -796,15 +798,42 @@ public final class VirtualRewrite {
             return true;
         }
 
+        /** What hangs most on slots before comes next, so that what can't meet is seen early. */
+        private void orderSlots() {
+            for (int i = 0; i < slots.count; i++) {
+                order[i] = i;
+            }
+            int settled = 0;
+            for (int i = 0; i < slots.count; i++) {
+                int best = i;
+                for (int j = i + 1; j < slots.count; j++) {
+                    if (isBetter(order[j], order[best], settled)) {
+                        best = j;
+                    }
+                }
+                int slot = order[best];
+                order[best] = order[i];
+                order[i] = slot;
+                settled |= variables[slot];
+            }
+        }
+
+        private boolean isBetter(int one, int two, int settled) {
+            int hanging = Integer.bitCount(variables[one] & settled);
+            int other = Integer.bitCount(variables[two] & settled);
+            return hanging != other ? hanging > other : rowCounts[one] < rowCounts[two];
+        }
+
         /**
          * Answers MET, or the settled variables that all failures hang on: where a slot's own choice
          * is not among them, its other rows would fail alike and are left out.
          */
-        private int search(int slot, int settled) {
-            if (slot >= slots.count) {
+        private int search(int depth, int settled) {
+            if (depth >= slots.count) {
                 answers.take(codes, union);
                 return MET;
             }
+            int slot = order[depth];
             Table table = tableOf(slot);
             int after = settled | variables[slot];
             int blamed = settled & variables[slot];
@@ -812,8 +841,8 @@ public final class VirtualRewrite {
             for (int i = 0; i < rowCounts[slot] && !answers.large; i++) {
                 int row = rows[slot * ROWS + i];
                 if (agrees(slot, table, row, settled)) {
-                    settleVariables(slot, table, row, settled);
-                    int below = search(slot + 1, after);
+                    settleVariables(slot, table, row);
+                    int below = search(depth + 1, after);
                     if (below == MET) {
                         met = true;
                     } else if ((below & ~settled) == 0) {
@@ -837,10 +866,10 @@ public final class VirtualRewrite {
             return true;
         }
 
-        private void settleVariables(int slot, Table table, int row, int settled) {
+        private void settleVariables(int slot, Table table, int row) {
             for (int variable = 0; variable < VARIABLES; variable++) {
                 int column = columns[slot * VARIABLES + variable];
-                if (column != NOWHERE && !has(settled, variable)) {
+                if (column != NOWHERE) {
                     codes[variable] = templates[variable] * NUMBERS + table.cell(row, column);
                 }
             }

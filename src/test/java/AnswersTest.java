@@ -15,6 +15,7 @@ public final class AnswersTest {
         rowsAlikeCountOnce();
         findersAreCounted();
         partsThatDoNotMeet();
+        oneChoiceOfManyMeets();
         wrong();
         Check.end();
     }
@@ -104,6 +105,7 @@ public final class AnswersTest {
         VirtualRewrite x = new VirtualRewrite();
         x.row(0, 1, 1, 2);
         x.row(0, 2, 1, 2);
+        x.row(0, 3, 4, 2);
         x.mapping(0, 0, 0, 0, 0, 1);
         x.mapping(0, 0, 0, 0, 1, 1);
         x.atom(0, -1, -1);
@@ -254,6 +256,29 @@ public final class AnswersTest {
         Check.due("parts told by turns, few", x.run(), 4);
         Check.due("its last", x.value(3, 2), 6);
         Check.due("its last's end", x.value(3, 5), 9000);
+    }
+
+    /** Only the second row of table 1 meets, and that is seen two slots later. */
+    private static void oneChoiceOfManyMeets() {
+        VirtualRewrite x = new VirtualRewrite();
+        x.row(0, 1, 5, 0);
+        x.row(1, 1, 10, 0);
+        x.row(1, 1, 11, 0);
+        for (int i = 0; i < 3; i++) {
+            x.row(2, 1, 20 + i, 0);
+            x.row(3, 50 + i, 60 + i, 0);
+        }
+        x.row(3, 11, 20, 0);
+        for (int i = 0; i < 4; i++) {
+            x.mapping(i, i, 0, 0, 0, 1);
+        }
+        x.atom(0, -1, -2);
+        x.atom(1, -1, -3);
+        x.atom(2, -1, -4);
+        x.atom(3, -3, -4);
+        Check.due("one way", x.run(), 1);
+        Check.due("one way: variable 2", x.value(0, 2), 11);
+        Check.due("one way: variable 3", x.value(0, 3), 20);
     }
 
     private static void wrong() {

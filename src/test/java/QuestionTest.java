@@ -78,6 +78,11 @@ public final class QuestionTest {
         Check.due("its number, not its code", x.value(0, 0), 10002);
         x.span(0, 5, 9);
         Check.due("both spans hold", x.run(), 3);
+        x.span(0, 0, 9999);
+        Check.due("a wider span takes nothing back", x.run(), 3);
+        x.clear();
+        x.atom(0, -1, -2);
+        x.span(0, 5, 7);
         x.span(3, 5000, 1);
         Check.due("nothing asked of a variable that no atom has", x.run(), 3);
         x.span(1, 6666, 6666);

@@ -2,8 +2,9 @@ import java.util.Random;
 
 /** Promises 1 to 15: runs of calls whose answers are those of the triples made one by one. */
 public final class RandomRunsTest {
-    private static final int RUNS = 80;
-    private static final int CALLS = 300;
+    private static final int RUNS = 1000;
+    /** Nothing is promised of later calls. */
+    private static final int CALLS = 512;
 
     private final Random random;
     private final VirtualRewrite x = new VirtualRewrite();
@@ -13,6 +14,8 @@ public final class RandomRunsTest {
     private final int predicates;
     private final int templates;
     private final int tables;
+    private int calls = 0;
+    private int answers = 0;
 
     private RandomRunsTest(int seed) {
         random = new Random(seed);
@@ -48,17 +51,27 @@ public final class RandomRunsTest {
     }
 
     private void due(String call, int got, int want) {
+        calls++;
         Check.due(name + call, got, want);
     }
 
+    private boolean goesOn() {
+        return calls < CALLS - 4 && !Check.isWrong();
+    }
+
     private void go() {
-        for (int i = 0; i < CALLS && !Check.isWrong(); i++) {
+        int first = 30 + random.nextInt(60);
+        for (int i = 0; i < first; i++) {
             change();
-            if (random.nextInt(6) == 0) {
-                ask();
+        }
+        while (calls < CALLS - 100 && !Check.isWrong()) {
+            change();
+            if (random.nextInt(10) == 0) {
+                askUnions();
+                askAnswers(10);
             }
         }
-        ask();
+        askAnswers(CALLS);
     }
 
     private void change() {
@@ -97,33 +110,37 @@ public final class RandomRunsTest {
         }
     }
 
-    private void ask() {
+    private void askUnions() {
         due("triples", x.triples(), y.triples());
         int unions = y.unions();
         due("unions", x.unions(), unions);
-        for (int k = 0; k < 6; k++) {
-            int i = random.nextInt(Math.max(unions, 0) + 2) - 1;
-            for (int what = -1; what < 10; what++) {
-                due("union", x.union(i, what), y.union(i, what));
-            }
-            due("estimate", x.estimate(i), y.estimate(i));
+        int i = random.nextInt(Math.max(unions, 0) + 2) - 1;
+        for (int what = -1; what < 10; what++) {
+            due("union", x.union(i, what), y.union(i, what));
         }
-        if (random.nextInt(3) > 0) {
-            due("run", x.run(), y.run());
+        due("estimate", x.estimate(i), y.estimate(i));
+    }
+
+    /** Those that follow one another, as their order is looked at too. */
+    private void askAnswers(int most) {
+        if (random.nextInt(4) > 0) {
+            answers = y.run();
+            due("run", x.run(), answers);
         }
-        for (int i = -1; i <= 301; i++) {
-            for (int variable = -1; variable < 7; variable++) {
-                compareValue(i, variable);
-            }
-            for (int what = -1; what < 3; what++) {
-                due("found", x.found(i, what), y.found(i, what));
-            }
+        int start = random.nextInt(Math.max(answers, 0) + 1) - 1;
+        for (int i = start; i < start + most && i < 302 && goesOn(); i++) {
+            compareValue(i, below(6));
+            compareValue(i, 0);
+            due("found", x.found(i, i & 1), y.found(i, i & 1));
+            int what = below(2);
+            due("found", x.found(i, what), y.found(i, what));
         }
     }
 
     private void compareValue(int i, int variable) {
         int want = y.value(i, variable);
         if (want == Integer.MIN_VALUE) {
+            calls++;
             Check.dueThrow(name + "value", x, i, variable);
         } else {
             due("value", x.value(i, variable), want);
