@@ -2,15 +2,20 @@
 final class Check {
     private static int checked = 0;
     private static int wrong = 0;
+    private static String sentence = "";
 
     private Check() {
+    }
+
+    /** What is printed before each wrong answer from now on. */
+    static void about(String of) {
+        sentence = of;
     }
 
     static void due(String call, long got, long want) {
         checked++;
         if (got != want) {
-            wrong++;
-            System.out.println(call + " answered " + got + ", due is " + want);
+            fault(call + " answered " + got + ", due is " + want);
         }
     }
 
@@ -18,11 +23,19 @@ final class Check {
         checked++;
         try {
             int got = x.value(i, variable);
-            wrong++;
-            System.out.println(call + " answered " + got + ", due is an IllegalStateException");
+            fault(call + " answered " + got + ", due is an IllegalStateException");
         } catch (IllegalStateException e) {
             // This is what is due.
         }
+    }
+
+    static void fault(String text) {
+        wrong++;
+        System.out.println(sentence + text);
+    }
+
+    static int checked() {
+        return checked;
     }
 
     static boolean isWrong() {

@@ -5,13 +5,13 @@ import java.lang.reflect.Modifier;
 import java.util.Set;
 import java.util.TreeSet;
 
-/** The public face, and promise 1: a new object. */
+/** "The public face": the constants, the constructor and the methods, and no other member. */
 public final class FaceTest {
     public static void main(String[] args) {
         constants();
+        classItself();
         members();
-        newObject();
-        objectsAreApart();
+        exceptions();
         Check.end();
     }
 
@@ -20,6 +20,28 @@ public final class FaceTest {
         Check.due("FULL", VirtualRewrite.FULL, -2);
         Check.due("LARGE", VirtualRewrite.LARGE, -3);
         Check.due("NO", VirtualRewrite.NO, -4);
+    }
+
+    private static void classItself() {
+        int modifiers = VirtualRewrite.class.getModifiers();
+        Check.due("the class is public", Modifier.isPublic(modifiers) ? 1 : 0, 1);
+        Check.due("the class is final", Modifier.isFinal(modifiers) ? 1 : 0, 1);
+        for (Class<?> inside : VirtualRewrite.class.getDeclaredClasses()) {
+            int of = inside.getModifiers();
+            Check.due(inside.getName() + " is static", Modifier.isStatic(of) ? 1 : 0, 1);
+            Check.due(inside.getName() + " is hidden", Modifier.isPublic(of) || Modifier.isProtected(of) ? 1 : 0, 0);
+        }
+    }
+
+    /** Of all methods, value alone tells of an exception. */
+    private static void exceptions() {
+        for (Method m : VirtualRewrite.class.getDeclaredMethods()) {
+            Class<?>[] thrown = m.getExceptionTypes();
+            Check.due("exceptions of " + m.getName(), thrown.length, m.getName().equals("value") ? 1 : 0);
+            for (Class<?> t : thrown) {
+                Check.due(m.getName() + " throws " + t.getName(), t == IllegalStateException.class ? 1 : 0, 1);
+            }
+        }
     }
 
     private static void members() {
@@ -55,37 +77,5 @@ public final class FaceTest {
             }
         }
         Check.due("fields are " + fields, fields.equals(Set.of("BAD", "FULL", "LARGE", "NO")) ? 1 : 0, 1);
-    }
-
-    private static void newObject() {
-        VirtualRewrite x = new VirtualRewrite();
-        Check.due("new: found(0, 0)", x.found(0, 0), -1);
-        Check.due("new: value(0, 0)", x.value(0, 0), -1);
-        Check.due("new: triples()", x.triples(), 0);
-        Check.due("new: unions()", x.unions(), -1);
-        Check.due("new: run()", x.run(), -1);
-        Check.due("new: clear()", x.clear(), 0);
-        for (int table = 0; table < 4; table++) {
-            Check.due("new: drop", x.drop(table, 0), -1);
-            for (int column = 0; column < 3; column++) {
-                Check.due("new: key is none", x.key(table, column, false), 0);
-            }
-            Check.due("new: first row", x.row(table, 0, 0, 0), 1);
-        }
-        Check.due("new: mapping", x.mapping(0, 0, 0, 0, 0, 0), 0);
-        Check.due("new: atom", x.atom(0, 0, 0), 1);
-        Check.due("new: span", x.span(0, 0, 0), 1);
-    }
-
-    private static void objectsAreApart() {
-        VirtualRewrite x = new VirtualRewrite();
-        VirtualRewrite y = new VirtualRewrite();
-        x.row(0, 1, 2, 3);
-        x.mapping(0, 0, 0, 0, 0, 1);
-        x.atom(0, -1, -2);
-        Check.due("x.run()", x.run(), 1);
-        Check.due("y.triples()", y.triples(), 0);
-        Check.due("y.unions()", y.unions(), -1);
-        Check.due("y.found(0, 0)", y.found(0, 0), -1);
     }
 }

@@ -1,285 +1,253 @@
-/** Promises 10 to 12: unions, union, estimate. */
+/** Promise 10: unions. */
 public final class UnionsTest {
+    private static final String TEN = "10: unions";
+    private static final String CODE = "a place with a code has another template than the mapping's term there";
+    private static final String VARIABLE = "a variable stands at places with different templates";
+    private static final String MORE = "When there would be more than 150: TOO LARGE";
     private static final int BAD = VirtualRewrite.BAD;
     private static final int LARGE = VirtualRewrite.LARGE;
 
     public static void main(String[] args) {
-        order();
-        dropByCode();
-        dropByVariable();
-        mostUnions();
-        tooLarge();
-        slotsByVariable();
-        slotsByCode();
-        slotsOfEitherPlace();
-        slotsOfLeastAtom();
-        slotsFollowKeys();
-        wrong();
-        estimates();
-        Check.end();
+        Sentences.run(UnionsTest.class);
     }
 
-    private static void order() {
+    /** Mappings of predicate 0 by the templates of subject and object. */
+    private static VirtualRewrite withTemplates(int[]... templates) {
         VirtualRewrite x = new VirtualRewrite();
-        x.mapping(0, 1, 0, 0, 0, 1);
-        x.mapping(0, 0, 0, 0, 0, 1);
-        x.mapping(0, 1, 0, 0, 0, 2);
-        x.mapping(0, 0, 0, 0, 0, 2);
-        x.atom(1, -1, -2);
-        Check.due("unions of one atom", x.unions(), 2);
-        x.atom(0, -3, -4);
-        Check.due("unions of two atoms", x.unions(), 4);
-        int[][] due = {{0, 1}, {0, 3}, {2, 1}, {2, 3}};
-        for (int i = 0; i < 4; i++) {
-            Check.due("union(" + i + ", 0)", x.union(i, 0), due[i][0]);
-            Check.due("union(" + i + ", 1)", x.union(i, 1), due[i][1]);
+        for (int[] t : templates) {
+            x.mapping(0, 0, t[0], 0, t[1], 1);
         }
-        x.mapping(0, 0, 0, 0, 0, 0);
-        Check.due("a mapping more", x.unions(), 6);
-        Check.due("union(2, 1)", x.union(2, 1), 4);
-        x.atom(5, -1, -1);
-        Check.due("a predicate without mappings", x.unions(), 0);
-        Check.due("union(0, 0) of none", x.union(0, 0), BAD);
-        Check.due("estimate(0) of none", x.estimate(0), BAD);
-        Check.due("run() of none", x.run(), 0);
-    }
-
-    private static void dropByCode() {
-        VirtualRewrite x = new VirtualRewrite();
-        x.mapping(0, 0, 1, 0, 2, 1);
-        x.mapping(0, 0, 2, 0, 1, 1);
-        x.atom(0, 10000, -1);
-        Check.due("subject's template", x.unions(), 1);
-        Check.due("the one that is left", x.union(0, 0), 0);
-        x.clear();
-        x.atom(0, -1, 19999);
-        Check.due("object's template", x.unions(), 1);
-        Check.due("the other one is left", x.union(0, 0), 1);
-        x.clear();
-        x.atom(0, 19999, 10000);
-        Check.due("no mapping has both", x.unions(), 0);
-        x.clear();
-        x.atom(0, 9999, -1);
-        Check.due("no mapping has it", x.unions(), 0);
-    }
-
-    private static void dropByVariable() {
-        VirtualRewrite x = new VirtualRewrite();
-        x.mapping(0, 0, 1, 0, 2, 1);
-        x.mapping(0, 0, 2, 0, 1, 1);
-        x.mapping(0, 0, 1, 0, 1, 1);
-        x.atom(0, -1, -1);
-        Check.due("twice in one atom", x.unions(), 1);
-        Check.due("of one template", x.union(0, 0), 2);
-        x.clear();
-        x.atom(0, -1, -2);
-        x.atom(0, -2, -1);
-        Check.due("in two atoms", x.unions(), 3);
-        int[][] due = {{0, 1}, {1, 0}, {2, 2}};
-        for (int i = 0; i < 3; i++) {
-            Check.due("union(" + i + ", 0)", x.union(i, 0), due[i][0]);
-            Check.due("union(" + i + ", 1)", x.union(i, 1), due[i][1]);
-        }
-        x.atom(0, -3, -4);
-        x.atom(0, -3, -1);
-        Check.due("the last atom drops too", x.unions(), 8);
-    }
-
-    private static void mostUnions() {
-        VirtualRewrite x = new VirtualRewrite();
-        int[] each = {1, 2, 5, 3};
-        for (int predicate = 0; predicate < 4; predicate++) {
-            for (int i = 0; i < each[predicate]; i++) {
-                x.mapping(0, predicate, 0, 0, 0, 1);
-            }
-        }
-        x.atom(2, -1, -2);
-        x.atom(3, -1, -2);
-        x.atom(2, -1, -2);
-        x.atom(1, -1, -2);
-        Check.due("150 unions", x.unions(), 150);
-        Check.due("the last one's atom 0", x.union(149, 0), 7);
-        Check.due("the last one's atom 1", x.union(149, 1), 10);
-        Check.due("the last one's atom 3", x.union(149, 3), 2);
-        Check.due("no union 150", x.union(150, 0), BAD);
-        Check.due("no estimate of 150", x.estimate(150), BAD);
-        x.row(0, 1, 2, 3);
-        Check.due("run()", x.run(), 1);
-        Check.due("all find it", x.found(0, 0), 150);
-        Check.due("the first of them", x.found(0, 1), 0);
-        x.mapping(0, 7, 0, 0, 0, 1);
-        Check.due("a mapping of a predicate that is not asked", x.unions(), 150);
-    }
-
-    private static void tooLarge() {
-        VirtualRewrite x = new VirtualRewrite();
-        x.row(0, 1, 2, 3);
-        for (int i = 0; i < 12; i++) {
-            x.mapping(0, 0, i % 2, 0, 2, 1);
-        }
-        x.atom(0, -1, -2);
-        Check.due("run()", x.run(), 2);
-        x.atom(0, -3, -4);
-        Check.due("144", x.unions(), 144);
-        x.atom(0, -1, -5);
-        Check.due("864", x.unions(), LARGE);
-        Check.due("union of too many", x.union(0, 0), LARGE);
-        Check.due("slot of too many", x.union(149, 6), LARGE);
-        Check.due("slots of too many", x.union(7, 8), LARGE);
-        Check.due("estimate of too many", x.estimate(0), LARGE);
-        Check.due("no such atom comes first", x.union(0, 3), BAD);
-        Check.due("nothing such comes first", x.union(0, 9), BAD);
-        Check.due("no such union comes first", x.union(-1, 0), BAD);
-        Check.due("no such estimate comes first", x.estimate(-1), BAD);
-        Check.due("run of too many", x.run(), LARGE);
-        Check.due("no answers then", x.found(0, 0), BAD);
-        Check.due("no answers then, no throw", x.value(0, 5), BAD);
-        x.clear();
-        x.atom(0, -1, -2);
-        Check.due("not too many again", x.unions(), 12);
-    }
-
-    private static VirtualRewrite keyed() {
-        VirtualRewrite x = new VirtualRewrite();
-        x.key(0, 0, true);
-        x.mapping(0, 0, 0, 0, 1, 1);
-        x.mapping(0, 1, 0, 0, 1, 2);
-        x.mapping(1, 2, 0, 0, 1, 1);
-        x.mapping(0, 3, 1, 1, 0, 0);
         return x;
     }
 
-    private static void slots(String of, VirtualRewrite x, int... due) {
-        int most = 0;
-        for (int atom = 0; atom < due.length; atom++) {
-            Check.due(of + ": slot of atom " + atom, x.union(0, 4 + atom), due[atom]);
-            most = Math.max(most, due[atom] + 1);
-        }
-        Check.due(of + ": slots", x.union(0, 8), most);
-    }
-
-    private static void slotsByVariable() {
-        VirtualRewrite x = keyed();
-        x.atom(0, -1, -2);
-        x.atom(1, -1, -3);
-        x.atom(1, -4, -3);
-        x.atom(2, -1, -2);
-        slots("same key variable", x, 0, 0, 1, 2);
-        Check.due("mapping of atom 3", x.union(0, 3), 2);
-    }
-
-    private static void slotsByCode() {
-        VirtualRewrite x = keyed();
-        x.atom(0, 7, -2);
-        x.atom(1, 8, -2);
-        x.atom(1, 7, -3);
-        x.atom(1, -1, -3);
-        slots("same key code", x, 0, 1, 0, 2);
-    }
-
-    private static void slotsOfEitherPlace() {
-        VirtualRewrite x = keyed();
-        x.atom(0, -1, -2);
-        x.atom(3, -2, -3);
-        x.atom(3, -4, -1);
-        slots("subject of one, object of the other", x, 0, 1, 0);
-        x.clear();
-        x.atom(3, -2, 5);
-        x.atom(3, -3, 5);
-        slots("object of both", x, 0, 0);
-    }
-
-    private static void slotsOfLeastAtom() {
+    private static VirtualRewrite twelveAlike() {
         VirtualRewrite x = new VirtualRewrite();
-        x.key(0, 0, true);
-        x.key(0, 1, true);
-        x.mapping(0, 0, 0, 0, 1, 1);
-        x.atom(0, -1, -2);
-        x.atom(0, -3, -4);
-        x.atom(0, -3, -2);
-        slots("the least of two", x, 0, 1, 0);
-        x.atom(0, -3, -5);
-        slots("by an atom that has another's slot", x, 0, 1, 0, 1);
-        x.clear();
-        x.atom(0, -1, -2);
-        x.atom(0, -3, -2);
-        x.atom(0, -3, -4);
-        slots("a chain", x, 0, 0, 0);
+        for (int i = 0; i < 12; i++) {
+            x.mapping(0, 0, 0, 0, 0, 1);
+        }
+        return x;
     }
 
-    private static void slotsFollowKeys() {
-        VirtualRewrite x = keyed();
+    @Sentence(promise = TEN, says = "A UNION gives each atom a mapping of its predicate", edge = "one to four atoms")
+    private static void productOfMappings() {
+        VirtualRewrite x = new VirtualRewrite();
+        for (int i = 0; i < 9; i++) {
+            x.mapping(i % 4, i % 3 == 0 ? 7 : 2, 0, 0, 0, 1);
+        }
+        int[] due = {3, 18, 54, LARGE};
+        int[] predicates = {7, 2, 7, 2};
+        for (int i = 0; i < 4; i++) {
+            x.atom(predicates[i], -1, -2);
+            Check.due("unions() of " + (i + 1), x.unions(), due[i]);
+        }
+    }
+
+    @Sentence(promise = TEN, says = "A UNION gives each atom a mapping of its predicate", edge = "a mapping that comes later counts too")
+    private static void mappingThatComesLater() {
+        VirtualRewrite x = new VirtualRewrite();
+        x.atom(3, -1, -2);
+        Check.due("unions() of no mapping", x.unions(), 0);
+        x.mapping(0, 3, 0, 0, 0, 1);
+        Check.due("unions() of one", x.unions(), 1);
+        x.mapping(0, 4, 0, 0, 0, 1);
+        Check.due("unions() of one and another predicate's", x.unions(), 1);
+        x.mapping(1, 3, 5, 0, 5, 1);
+        Check.due("unions() of two", x.unions(), 2);
+    }
+
+    @Sentence(promise = TEN, says = "How many unions are not dropped", edge = "none, as a predicate has no mapping")
+    private static void noneOfPredicateWithoutMapping() {
+        VirtualRewrite x = Samples.oneAnswer();
+        x.atom(1, -1, -2);
+        Check.due("unions()", x.unions(), 0);
+    }
+
+    @Sentence(promise = TEN, says = "How many unions are not dropped", edge = "none, as all are dropped")
+    private static void allAreDropped() {
+        VirtualRewrite x = twelveAlike();
+        x.atom(0, 10000, -1);
+        Check.due("unions()", x.unions(), 0);
+    }
+
+    @Sentence(promise = TEN, says = CODE, edge = "the subject's")
+    private static void droppedBySubjectsCode() {
+        VirtualRewrite x = withTemplates(new int[] {1, 2}, new int[] {2, 1}, new int[] {1, 1});
+        x.atom(0, 19999, -1);
+        Check.due("unions() of template 1", x.unions(), 2);
+        x.clear();
+        x.atom(0, 20000, -1);
+        Check.due("unions() of template 2", x.unions(), 1);
+        x.clear();
+        x.atom(0, 9999, -1);
+        Check.due("unions() of template 0", x.unions(), 0);
+    }
+
+    @Sentence(promise = TEN, says = CODE, edge = "the object's")
+    private static void droppedByObjectsCode() {
+        VirtualRewrite x = withTemplates(new int[] {1, 2}, new int[] {2, 1}, new int[] {1, 1});
+        x.atom(0, -1, 10000);
+        Check.due("unions() of template 1", x.unions(), 2);
+        x.clear();
+        x.atom(0, -1, 29999);
+        Check.due("unions() of template 2", x.unions(), 1);
+        x.clear();
+        x.atom(0, -1, 30000);
+        Check.due("unions() of template 3", x.unions(), 0);
+    }
+
+    @Sentence(promise = TEN, says = CODE, edge = "both places have one")
+    private static void droppedByBothCodes() {
+        VirtualRewrite x = withTemplates(new int[] {1, 2}, new int[] {2, 1}, new int[] {1, 1});
+        x.atom(0, 10000, 20000);
+        Check.due("unions() of 1 and 2", x.unions(), 1);
+        x.atom(0, 20000, 20000);
+        Check.due("unions() of 2 and 2 too", x.unions(), 0);
+    }
+
+    @Sentence(promise = TEN, says = CODE, edge = "the codes at the ends of each template are of that template")
+    private static void endsOfTemplates() {
+        for (int template = 0; template < 6; template++) {
+            VirtualRewrite x = withTemplates(new int[] {template, template});
+            x.atom(0, 10000 * template, 10000 * template + 9999);
+            Check.due("unions() of template " + template, x.unions(), 1);
+        }
+    }
+
+    @Sentence(promise = TEN, says = CODE, edge = "another number does not drop it")
+    private static void otherNumberDropsNothing() {
+        VirtualRewrite x = Samples.oneAnswer();
+        x.clear();
+        x.atom(0, 10500, 20500);
+        Check.due("unions()", x.unions(), 1);
+        Check.due("run()", x.run(), 0);
+    }
+
+    @Sentence(promise = TEN, says = VARIABLE, edge = "both places of one atom")
+    private static void droppedByVariableOfOneAtom() {
+        VirtualRewrite x = withTemplates(new int[] {1, 2}, new int[] {2, 1}, new int[] {1, 1}, new int[] {5, 5});
+        x.atom(0, -1, -1);
+        Check.due("unions()", x.unions(), 2);
+    }
+
+    @Sentence(promise = TEN, says = VARIABLE, edge = "the object of one and the subject of another")
+    private static void droppedByVariableOfTwoAtoms() {
+        VirtualRewrite x = withTemplates(new int[] {1, 2}, new int[] {2, 1}, new int[] {1, 1});
+        x.atom(0, -1, -2);
+        x.atom(0, -2, -1);
+        Check.due("unions()", x.unions(), 3);
+    }
+
+    @Sentence(promise = TEN, says = VARIABLE, edge = "the first and the last of four atoms")
+    private static void droppedByVariableOfLastAtom() {
+        VirtualRewrite x = withTemplates(new int[] {1, 3}, new int[] {2, 3});
+        x.atom(0, -6, -1);
+        x.atom(0, -2, -1);
+        x.atom(0, -3, -1);
+        Check.due("unions() of three", x.unions(), 8);
+        x.atom(0, -6, -1);
+        Check.due("unions() of four", x.unions(), 8);
+    }
+
+    @Sentence(promise = TEN, says = VARIABLE, edge = "different variables may have different ones")
+    private static void differentVariables() {
+        VirtualRewrite x = withTemplates(new int[] {0, 1}, new int[] {2, 3}, new int[] {4, 5});
+        x.atom(0, -1, -2);
+        x.atom(0, -3, -4);
+        x.atom(0, -5, -6);
+        Check.due("unions()", x.unions(), 27);
+    }
+
+    @Sentence(promise = TEN, says = "It is DROPPED when", edge = "rows do not matter")
+    private static void rowsDoNotMatter() {
+        VirtualRewrite x = withTemplates(new int[] {1, 1});
+        x.atom(0, -1, -2);
+        Check.due("unions() without rows", x.unions(), 1);
         x.row(0, 1, 2, 3);
-        x.row(0, 2, 2, 3);
-        x.atom(0, -1, -2);
-        x.atom(1, -1, -3);
-        slots("with a key", x, 0, 0);
-        Check.due("estimate with a key", x.estimate(0), 2);
-        x.key(0, 0, false);
-        slots("without it", x, 0, 1);
-        Check.due("estimate without it", x.estimate(0), 4);
-        x.key(0, 0, true);
-        slots("with it again", x, 0, 0);
-        x.key(0, 2, true);
-        x.clear();
-        x.atom(1, -1, -2);
-        x.atom(1, -3, -2);
-        slots("an object that is no key", x, 0, 1);
+        Check.due("unions() with a row", x.unions(), 1);
     }
 
-    private static void wrong() {
-        VirtualRewrite x = keyed();
-        Check.due("union without atoms", x.union(0, 8), BAD);
-        Check.due("estimate without atoms", x.estimate(0), BAD);
-        Check.due("unions without atoms", x.unions(), BAD);
-        x.atom(0, -1, -2);
-        int[] numbers = {Integer.MIN_VALUE, -1, 1, Integer.MAX_VALUE};
-        for (int w : numbers) {
-            Check.due("union(" + w + ", 0)", x.union(w, 0), BAD);
-            Check.due("union(" + w + ", 8)", x.union(w, 8), BAD);
-            Check.due("estimate(" + w + ")", x.estimate(w), BAD);
-        }
-        int[] whats = {Integer.MIN_VALUE, -1, 1, 3, 5, 7, 9, Integer.MAX_VALUE};
-        for (int w : whats) {
-            Check.due("union(0, " + w + ")", x.union(0, w), BAD);
-        }
-        x.atom(0, -1, -2);
-        x.atom(0, -1, -2);
-        Check.due("no atom 3", x.union(0, 3), BAD);
-        Check.due("no slot of atom 3", x.union(0, 7), BAD);
-        x.atom(0, -1, -2);
-        Check.due("atom 3", x.union(0, 3), 0);
-        Check.due("slot of atom 3", x.union(0, 7), 0);
+    @Sentence(promise = TEN, says = MORE, edge = "150 are not")
+    private static void exactly150() {
+        VirtualRewrite x = Samples.unions150();
+        Check.due("unions()", x.unions(), 150);
+        x.mapping(0, 7, 0, 0, 0, 1);
+        Check.due("unions() with a mapping that is not asked", x.unions(), 150);
     }
 
-    private static void estimates() {
+    @Sentence(promise = TEN, says = MORE, edge = "151 are")
+    private static void exactly151() {
+        Check.due("unions()", Samples.unions151().unions(), LARGE);
+    }
+
+    @Sentence(promise = TEN, says = MORE, edge = "the most: twelve mappings for each of four atoms")
+    private static void theMost() {
+        VirtualRewrite x = twelveAlike();
+        int[] due = {12, 144, LARGE, LARGE};
+        for (int i = 0; i < 4; i++) {
+            x.atom(0, -1, -2);
+            Check.due("unions() of " + (i + 1), x.unions(), due[i]);
+        }
+    }
+
+    @Sentence(promise = TEN, says = MORE, edge = "those that are dropped do not count")
+    private static void droppedDoNotCount() {
         VirtualRewrite x = new VirtualRewrite();
-        x.mapping(0, 0, 0, 0, 0, 1);
-        x.mapping(1, 1, 0, 0, 0, 1);
-        x.atom(0, -1, -2);
-        Check.due("an empty table", x.estimate(0), 0);
-        for (int i = 0; i < 20; i++) {
-            x.row(0, i, 0, 0);
-            if (i < 3) {
-                x.row(1, i, 0, 0);
-            }
+        for (int i = 0; i < 12; i++) {
+            x.mapping(0, 0, i % 6, 0, 0, 1);
         }
-        Check.due("one slot", x.estimate(0), 20);
-        x.atom(1, -1, -2);
-        Check.due("two slots", x.estimate(0), 60);
-        x.clear();
         for (int i = 0; i < 4; i++) {
             x.atom(0, -1, -2);
         }
-        Check.due("four slots", x.estimate(0), 160000);
-        x.key(0, 0, true);
-        Check.due("all one slot", x.estimate(0), 20);
-        x.drop(0, 0);
-        Check.due("a row less", x.estimate(0), 19);
-        x.clear();
+        Check.due("unions(), 2 times 2 times 2 times 2 of each template", x.unions(), 96);
+    }
+
+    @Sentence(promise = TEN, says = MORE, edge = "none are not, though three of four atoms have 1728 ways")
+    private static void lastAtomDropsAll() {
+        VirtualRewrite x = twelveAlike();
+        for (int i = 0; i < 3; i++) {
+            x.atom(0, -1, -2);
+        }
+        x.atom(1, -1, -2);
+        Check.due("unions()", x.unions(), 0);
+        Check.due("run()", x.run(), 0);
+    }
+
+    @Sentence(promise = TEN, says = "LARGE", edge = "an atom that drops enough brings it back")
+    private static void atomBringsItBack() {
+        VirtualRewrite x = twelveAlike();
+        for (int i = 0; i < 3; i++) {
+            x.atom(0, -1, -2);
+        }
+        Check.due("unions() of three", x.unions(), LARGE);
+        x.atom(0, 10000, -2);
+        Check.due("unions() of four", x.unions(), 0);
+    }
+
+    @Sentence(promise = TEN, says = "LARGE", edge = "a mapping brings it from 128 to more than 150")
+    private static void mappingBringsIt() {
+        VirtualRewrite x = new VirtualRewrite();
+        for (int i = 0; i < 6; i++) {
+            x.mapping(0, i < 4 ? 0 : 1, 0, 0, 0, 1);
+        }
         x.atom(0, -1, -2);
-        x.atom(1, -1, -3);
-        x.atom(0, -1, -4);
-        Check.due("the first and the last are one", x.estimate(0), 57);
+        x.atom(0, -1, -2);
+        x.atom(0, -1, -2);
+        x.atom(1, -1, -2);
+        Check.due("unions()", x.unions(), 128);
+        x.mapping(0, 1, 0, 0, 0, 1);
+        Check.due("unions() with one mapping more", x.unions(), LARGE);
+    }
+
+    @Sentence(promise = TEN, says = "BAD without atoms", edge = "a new object, also with mappings and spans")
+    private static void badWithoutAtoms() {
+        VirtualRewrite x = new VirtualRewrite();
+        Check.due("unions() of a new object", x.unions(), BAD);
+        x.mapping(0, 0, 0, 0, 0, 1);
+        x.span(0, 0, 9);
+        Check.due("unions() with mapping and span", x.unions(), BAD);
+        x.atom(0, -1, -2);
+        Check.due("unions() with an atom", x.unions(), 1);
+        x.clear();
+        Check.due("unions() after clear()", x.unions(), BAD);
     }
 }
