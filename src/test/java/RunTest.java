@@ -248,11 +248,18 @@ public final class RunTest {
         for (int i = 0; i < 4; i++) {
             x.mapping(i, i, 0, 0, 0, 1);
         }
-        x.atom(0, -1, -2);
-        x.atom(1, -1, -3);
-        x.atom(2, -1, -4);
-        x.atom(3, -3, -4);
-        answers(x, new int[] {0, 1, 2, 3}, new int[][] {{1, 5, 11, 20}});
+        for (int turn = 0; turn < 6; turn++) {
+            int[] told = new int[4];
+            for (int i = 0; i < 4; i++) {
+                told[i] = -1 - (i + turn) % 6;
+            }
+            x.clear();
+            x.atom(0, told[0], told[1]);
+            x.atom(1, told[0], told[2]);
+            x.atom(2, told[0], told[3]);
+            x.atom(3, told[2], told[3]);
+            answers(x, new int[] {-1 - told[0], -1 - told[1], -1 - told[2], -1 - told[3]}, new int[][] {{1, 5, 11, 20}});
+        }
     }
 
     @Sentence(promise = THIRTEEN, says = "THE ANSWERS are all different rows that unions find", edge = "rows of a table that are alike")
